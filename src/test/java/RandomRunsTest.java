@@ -1,7 +1,3 @@
-import java.lang.reflect.Method;
-import java.util.Arrays;
-import java.util.HashMap;
-import java.util.Map;
 import java.util.Random;
 
 /** All promises: long runs of calls, drawn by a fixed seed, answered by the class and by PlainRooms. */
@@ -11,38 +7,23 @@ public final class RandomRunsTest {
         Integer.MAX_VALUE, Integer.MIN_VALUE};
 
     private final Random random;
-    private final Map<String, Method> fast = new HashMap<>();
-    private final Map<String, Method> plain = new HashMap<>();
-    private final String[] names;
-    private RoomNumbers room;
-    private PlainRooms rooms;
-    private final StringBuilder told = new StringBuilder();
+    private final String[] names = Both.names();
+    private Both both;
 
     private RandomRunsTest(long seed) {
         random = new Random(seed);
-        for (Method m : RoomNumbers.class.getDeclaredMethods()) {
-            if (java.lang.reflect.Modifier.isPublic(m.getModifiers())) fast.put(m.getName(), m);
-        }
-        for (Method m : PlainRooms.class.getDeclaredMethods()) {
-            if (java.lang.reflect.Modifier.isPublic(m.getModifiers())) plain.put(m.getName(), m);
-        }
-        names = fast.keySet().toArray(new String[0]);
-        Arrays.sort(names);
     }
 
     public static void main(String[] args) throws Exception {
         int runs = args.length > 0 ? Integer.parseInt(args[0]) : RUNS;
         long seed = args.length > 1 ? Long.parseLong(args[1]) : 20261118L;
         RandomRunsTest test = new RandomRunsTest(seed);
-        Checks.due("methods", test.fast.size(), test.plain.size());
         for (int run = 0; run < runs; run++) test.run(run);
         Checks.finish();
     }
 
     private void run(int number) throws Exception {
-        room = new RoomNumbers();
-        rooms = new PlainRooms();
-        told.setLength(0);
+        both = new Both();
         boolean tame = number % 4 != 0;
         int calls = 0;
         while (calls < CALLS) {
@@ -54,28 +35,19 @@ public final class RandomRunsTest {
         }
     }
 
-    private long call(String name, Object... args) throws Exception {
-        told.append(name).append(Arrays.toString(args)).append(' ');
-        long got = ((Number) fast.get(name).invoke(room, args)).longValue();
-        long want = ((Number) plain.get(name).invoke(rooms, args)).longValue();
-        if (got != want) System.out.println("behind " + told);
-        Checks.due(name + Arrays.toString(args), got, want);
-        return got;
-    }
-
     private int any(boolean tame) throws Exception {
         String name = names[random.nextInt(names.length)];
         boolean rare = name.equals("valley") || name.equals("alike") || name.equals("mended") || name.equals("proof");
         if (rare && random.nextInt(3) != 0) return 0;
         if (name.equals("feed") && random.nextInt(8) != 0) return 0;
-        Class<?>[] types = fast.get(name).getParameterTypes();
+        Class<?>[] types = Both.parameters(name);
         Object[] args = new Object[types.length];
         for (int i = 0; i < args.length; i++) {
             int v = tame && random.nextInt(12) != 0 ? likely(name, i) : edge();
             if (types[i] == long.class) args[i] = (long) v;
             else args[i] = v;
         }
-        call(name, args);
+        both.call(name, args);
         return 1;
     }
 
@@ -138,15 +110,15 @@ public final class RandomRunsTest {
         for (int i = 0; i < n; i++) signs = signs * 16 + random.nextInt(random.nextInt(4) == 0 ? 10 : 4);
         int kind = random.nextInt(6);
         if (kind == 1 || kind == 5) signs = 0x111;
-        call("note", kind, random.nextInt(3), random.nextInt(4), n, signs);
+        both.call("note", kind, random.nextInt(3), random.nextInt(4), n, signs);
         return 1;
     }
 
     private int likelyLine() throws Exception {
-        if (random.nextInt(3) == 0) call("strike", random.nextInt(3));
+        if (random.nextInt(3) == 0) both.call("strike", random.nextInt(3));
         int sort = random.nextInt(4);
-        int notes = Math.max(1, room.many(0));
-        call("line", sort, random.nextInt(notes), random.nextInt(notes), sort == 3 ? 1 + random.nextInt(6) : random.nextInt(notes));
+        int notes = Math.max(1, (int) both.call("many", 0));
+        both.call("line", sort, random.nextInt(notes), random.nextInt(notes), sort == 3 ? 1 + random.nextInt(6) : random.nextInt(notes));
         return 2;
     }
 
@@ -161,13 +133,14 @@ public final class RandomRunsTest {
             if (n == 8) eight = 0;
             else eight = eight >>> (8 * n) << (8 * n);
             for (int i = 0; i < n; i++) eight |= (long) (text.charAt(at + i) & 255) << (8 * i);
-            call("feed", eight, n);
+            both.call("feed", eight, n);
             calls++;
         }
-        call("valley");
-        for (int what = 0; what < 5; what++) call("many", what);
-        for (int i = 0; i < room.many(0); i++) {
-            for (int what : new int[] {0, 1, 2, 3, 10, 11, 12, 13, 14, 15}) call("noteOf", i, what);
+        both.call("valley");
+        for (int what = 0; what < 5; what++) both.call("many", what);
+        int notes = (int) both.call("many", 0);
+        for (int i = 0; i < notes; i++) {
+            for (int what : new int[] {0, 1, 2, 3, 10, 11, 12, 13, 14, 15}) both.call("noteOf", i, what);
         }
         return calls + 5;
     }
