@@ -76,6 +76,9 @@ public final class HostTest {
         Checks.due("a row where a note was", x.taken(2, 10), 3);
         x.shelf(2, 0, 0);
         Checks.due("a note where a row was", x.taken(2, 0), 0);
+        Checks.tell(x, "");
+        Checks.due("neither the note nor the row", x.taken(2, 10), -11);
+        x.note(0, 0, 0, 1, 1);
         x.shelf(2, 1, 2);
         Checks.due("a missing sheet where a note was", x.taken(2, 0), -11);
     }

@@ -9,6 +9,8 @@ public final class LinesTest {
         holds();
         proof();
         mended();
+        oneWorld();
+        mendedByLines();
         which();
         gain();
         Checks.finish();
@@ -165,6 +167,34 @@ public final class LinesTest {
         RoomNumbers first = Checks.told("evening 0 10 10; note 0:3; note 0:4; same 0 1;");
         Checks.due("the first note", first.mended(0), 0);
         Checks.due("the first note", first.mended(2), 4);
+    }
+
+    private static void oneWorld() {
+        RoomNumbers x = Checks.told("evening 0 3 3; evening 1 4 4; evening 2 5 5; note 0:1; same 0 0;");
+        Checks.due("worlds", x.worlds(), 1);
+        Checks.due("proof", x.proof(), RoomNumbers.NONE);
+        Checks.due("mended", x.mended(0), RoomNumbers.STATE);
+        Checks.due("guess", x.guess(), 0);
+        Checks.due("prove", x.prove(0), 1);
+        for (int e = 0; e < 3; e++) Checks.due("sure", x.sure(e), 3 + e);
+    }
+
+    private static void mendedByLines() {
+        RoomNumbers x = Checks.told("evening 0 3 4; evening 1 10 10; note 0:1,0; note 1:9; same 0 1;");
+        Checks.due("3,0 is worth 9 only where it can't be", x.mended(0), 1);
+        Checks.due("3,0 is worth 9 only where it can't be", x.mended(1), 0);
+        Checks.due("3,0 is worth 9 only where it can't be", x.mended(2), 3);
+        RoomNumbers sum = Checks.told("evening 0 2 2; strokes 0:1; strokes 0:1,1; evening 2 10 10; note 2:1; sum 0 1 2;");
+        Checks.due("the last one of a sum", sum.mended(0), 2);
+        Checks.due("the last one of a sum", sum.mended(1), 0);
+        Checks.due("the last one of a sum", sum.mended(2), 3);
+        RoomNumbers more = Checks.told("strokes 0:1; evening 2 10 10; note 2:5; more 0 1;");
+        Checks.due("the second of two", more.mended(0), 1);
+        Checks.due("the second of two", more.mended(2), 0);
+        RoomNumbers whole = Checks.told("note 1:5; whole 0 7;");
+        Checks.due("a multiple", whole.mended(2), 0);
+        RoomNumbers far = Checks.told("evening 0 9 9; note 0:7,8; whole 0 9; strokes 0:0; debt 1:0;");
+        Checks.due("too much is wrong", far.mended(0), RoomNumbers.NONE);
     }
 
     private static void which() {

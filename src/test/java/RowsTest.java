@@ -105,6 +105,7 @@ public final class RowsTest {
         x.sheet(2, 0, 5);
         int[] bytes = {16, -128, 127, 15, 7};
         for (int i = 0; i < 5; i++) x.put(2, i, bytes[i]);
+        Checks.due("worlds ahead", x.worlds(), 13 * 9 * 15);
         Checks.due("signs", x.signs(0, 2, 1, 2), 2);
         Checks.due("held to 0", x.noteOf(0, 10), 0);
         Checks.due("held to 15", x.noteOf(0, 11), 15);

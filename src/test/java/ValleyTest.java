@@ -97,6 +97,10 @@ public final class ValleyTest {
         Checks.fault(";", 0);
         Checks.fault("  x", 2);
         Checks.fault("notes 0:1;", 0);
+        Checks.fault("notez 0:1;", 0);
+        Checks.fault("dote 0:1;", 0);
+        Checks.fault("note 0:1;eote 0:1;", 9);
+        Checks.fault("note 0:1,2,3,4,5,6,;", 19);
         Checks.fault("not 0:1;", 0);
         Checks.fault("Note 0:1;", 0);
         Checks.fault("at 0;", 0);
