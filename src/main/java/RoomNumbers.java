@@ -204,10 +204,10 @@ public final class RoomNumbers {
     // ---- numbers
 
     public int written(int v, int base, int i) {
-        if (!within(v, 0, TOP_NUMBER) || !isBase(base)) return BAD;
+        if (!within(v, 0, TOP_NUMBER) || !isBase(base) || i < -1) return BAD;
         int n = howLong(v, base);
         if (i == -1) return n;
-        if (!within(i, 0, n - 1)) return NONE;
+        if (i >= n) return NONE;
         int rest = v;
         for (int k = n - 1; k > i; k--) rest /= base;
         return rest % base;

@@ -21,10 +21,10 @@ public final class NumbersTest {
                 Checks.due("beyond", x.written(v, base, text.length()), RoomNumbers.NONE);
             }
         }
-        int[][] bad = {{-1, 2, 0}, {10000, 2, 0}, {5, 1, 0}, {5, 17, 0}, {5, 0, -1}};
+        int[][] bad = {{-1, 2, 0}, {10000, 2, 0}, {5, 1, 0}, {5, 17, 0}, {5, 0, -1},
+                {0, 2, -2}, {9, 9, -2}, {9999, 16, -3}, {9999, 2, Integer.MIN_VALUE}};
         for (int[] b : bad) Checks.due("bad written", x.written(b[0], b[1], b[2]), RoomNumbers.BAD);
         Checks.due("far beyond", x.written(9, 9, Integer.MAX_VALUE), RoomNumbers.NONE);
-        Checks.due("far ahead", x.written(9, 9, -2), RoomNumbers.NONE);
     }
 
     private static void alike() {

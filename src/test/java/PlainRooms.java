@@ -390,7 +390,7 @@ public final class PlainRooms {
     }
 
     public int written(int v, int base, int i) {
-        if (!in(v, 0, 9999) || !in(base, 2, 16)) return BAD;
+        if (!in(v, 0, 9999) || !in(base, 2, 16) || i < -1) return BAD;
         String t = Integer.toString(v, base);
         if (i == -1) return t.length();
         return in(i, 0, t.length() - 1) ? Character.digit(t.charAt(i), 16) : NONE;

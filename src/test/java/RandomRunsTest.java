@@ -75,7 +75,7 @@ public final class RandomRunsTest {
             case "world": case "prove":
                 return i == 1 ? random.nextInt(3) : random.nextInt(1 + random.nextInt(3375));
             case "written":
-                return new int[] {random.nextInt(10000), 2 + random.nextInt(15), random.nextInt(8) - 1}[i];
+                return new int[] {random.nextInt(10000), 2 + random.nextInt(15), random.nextInt(10) - 3}[i];
             case "alike":
                 return i == 0 ? (1 << 2 + random.nextInt(15)) | (1 << 2 + random.nextInt(15)) : random.nextInt(20);
             case "shortest":
