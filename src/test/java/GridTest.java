@@ -14,7 +14,8 @@ public final class GridTest {
         39, 40, 41, 99, 100, 199, 200, 224, 225, 3374, 3375, 9999, 10000, 131068, 131072, HIGH - 1, HIGH};
     /** Where a call has a range that the rows above miss. */
     private static final Map<String, int[][]> OWN = Map.of(
-            "written", new int[][] {{LOW, -1, 0, 1, 15, 16, 255, 256, 4095, 4096, 9999, 10000, HIGH}, {LOW, 1, 2, 3, 15, 16, 17, HIGH}, {LOW, -2, -1, 0, 1, 3, 4, 13, 14, HIGH}},
+            "written", new int[][] {{LOW, -1, 0, 1, 15, 16, 255, 256, 4095, 4096, 9999, 10000, HIGH},
+                {LOW, 1, 2, 3, 15, 16, 17, HIGH}, {LOW, -2, -1, 0, 1, 3, 4, 13, 14, HIGH}},
             "alike", new int[][] {{LOW, -1, 0, 1, 2, 3, 4, 8, 12, 1 << 16, 3 << 15, 131068, 131072, HIGH}, {LOW, -1, 0, 1, 2, 3, 14, 15, 16, 9999, 10000, HIGH}},
             "shortest", new int[][] {MANY, {LOW, -1, 0, 1, 2, 3, 4, 8, 12, 1 << 16, 3 << 15, 131068, 131072, HIGH}},
             "holds", new int[][] {{-1, 0, 1, 5, 6, HIGH}, {LOW, 1, 2, 7, 16, 17, HIGH}, {LOW, 1, 2, 16, 17, HIGH}, {1, 2, 5, 16, 17, HIGH}},

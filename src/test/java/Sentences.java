@@ -35,18 +35,20 @@ final class Sentences {
         for (int i = 0; at >= 0 && i < words.length(); i++) quoted[at + i] = true;
     }
 
-    /** All words of these promises must have been quoted by now. */
-    static void finish(int... promises) {
+    /** All words of a promise must have been quoted by now. */
+    static void allQuoted(int promise) {
         read();
-        for (int p : promises) {
-            String text = TEXTS.getOrDefault(p, "?");
-            StringBuilder left = new StringBuilder();
-            boolean[] quoted = QUOTED.getOrDefault(p, new boolean[text.length()]);
-            for (int i = 0; i < text.length(); i++) left.append(quoted[i] ? ' ' : text.charAt(i));
-            String unquoted = left.toString().trim();
-            Checks.due("words of promise " + p + " without a test: '" + unquoted + "'", unquoted.length(), 0);
-        }
-        Checks.finish();
+        String text = TEXTS.getOrDefault(promise, "?");
+        boolean[] quoted = QUOTED.getOrDefault(promise, new boolean[text.length()]);
+        StringBuilder left = new StringBuilder();
+        for (int i = 0; i < text.length(); i++) left.append(quoted[i] ? ' ' : text.charAt(i));
+        String words = left.toString().replaceAll("[^A-Za-z0-9]+", " ").trim();
+        Checks.due("words without a test, of promise " + promise + ": '" + words + "'", words.length(), 0);
+    }
+
+    /** Headings and fences are no words. */
+    private static String withoutMarks(String text) {
+        return text.replaceAll("======== \\d|```text|```", "");
     }
 
     private static void read() {
@@ -58,7 +60,7 @@ final class Sentences {
             throw new IllegalStateException("the document can't be read", e);
         }
         Matcher terms = Pattern.compile("(?s)## Terms\n(.*?)\nAhead of the calls").matcher(doc);
-        if (terms.find()) TEXTS.put(TERMS, terms.group(1));
+        if (terms.find()) TEXTS.put(TERMS, withoutMarks(terms.group(1)));
         Matcher promises = Pattern.compile("(?s)## Promise (\\d+): [^\n]*\n\n`[^`]*`: (.*?)\n(?=\n## |\\z)").matcher(doc);
         while (promises.find()) TEXTS.put(Integer.parseInt(promises.group(1)), promises.group(2));
         for (Map.Entry<Integer, String> e : TEXTS.entrySet()) QUOTED.put(e.getKey(), new boolean[e.getValue().length()]);

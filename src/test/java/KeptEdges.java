@@ -1,11 +1,11 @@
 /** The edges of promises 43 and 44, and what the Terms say of all calls. */
-public final class KeptEdgesTest {
+final class KeptEdges {
     private static final int TERMS = Sentences.TERMS;
     private static final int NONE = Scene.NONE;
     private static final Scene NEW = Scene.fresh();
     private static final Scene LIVED = Scene.lived().withBytes();
 
-    public static void main(String[] args) {
+    static void all() {
         keep();
         keepNothing();
         again();
@@ -13,7 +13,6 @@ public final class KeptEdgesTest {
         latest();
         notKept();
         answersBelowNothing();
-        Sentences.finish(43, 44);
     }
 
     private static void keep() {
@@ -83,7 +82,8 @@ public final class KeptEdgesTest {
     private static void notKept() {
         Sentences.says(43, "EVENINGS, NOTES, LINES and z are kept");
         Scene kept = LIVED.with("keep");
-        Scene later = kept.with("prove", 5).with("alterRow", 0, 2, 99).with("sheet", 3, 3, 2).with("put", 3, 1, 8).with("shelf", 3, 1, 3).with("act", 0, 0, 5).with("feed", 32, 1);
+        Scene later = kept.with("prove", 5).with("alterRow", 0, 2, 99).with("sheet", 3, 3, 2)
+                .with("put", 3, 1, 8).with("shelf", 3, 1, 3).with("act", 0, 0, 5).with("feed", 32, 1);
         later.then(3, "again").same(later);
         later.then(3, "again").then(99, "row", 0, 2).then(8, "item", 3, 3, 1).then(2, "taken", 3, 13).then(1, "many", 4).then(10, "many", 3);
     }
@@ -100,6 +100,22 @@ public final class KeptEdgesTest {
         full.shows(-2, "add", 0, 0);
         full.shows(-4, "mended", 0);
         full.shows(-3, "proof");
+        Sentences.says(TERMS, "of several the first named: BAD (-1) there is no such thing, or a number is not as told; FULL (-2); NONE (-3); STATE (-4);"
+                + " and what the host refuses: -11 nothing where something is asked, -12 a place outside, -13 a thing of another sort or kind,"
+                + " -14 a size below 0, -15 parted by 0.");
+        full.shows(-1, "note", 6, 0, 0, 1, 1);
+        full.shows(-1, "note", 0, 0, 0, 7, 1);
+        full.shows(-1, "line", 0, 6, 0, 0);
+        full.shows(-1, "feed", 32, 9);
+        full.shows(-1, "world", 3375, 3);
+        full.shows(-1, "mended", 3);
+        full.shows(-11, "put", 0, 40, 1);
+        full.with("sheet", 0, 0, 40).shows(-12, "put", 0, 40, 1);
+        full.with("sheet", 0, 0, 40).shows(-13, "item", 0, 1, 40);
+        full.shows(-14, "sheet", 0, 0, -1);
+        full.with("shelf", 0, 0, 0).then(-15, "act", 0, 2, 1);
+        // No call tells a part of a fraction.
+        Sentences.says(TERMS, "A part of a fraction: 0 above the line, 1 below it, without a common divisor, below above 0 (0 is 0 by 1).");
         Sentences.says(TERMS, "Where a number told may itself be below 0, NO (-1000000000000) stands for all refusals.");
         full.shows(-1000000000000L, "worth", 6, 2);
         full.shows(-1000000000000L, "gain", 6, 2, 2);

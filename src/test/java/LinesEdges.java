@@ -1,5 +1,5 @@
 /** The edges of promises 12 to 23: just at them and just beyond, and that a refused call changes nothing. */
-public final class LinesEdgesTest {
+final class LinesEdges {
     private static final int TERMS = Sentences.TERMS;
     private static final int BAD = Scene.BAD, FULL = Scene.FULL, NONE = Scene.NONE, STATE = Scene.STATE;
     private static final int LOW = Scene.LOW, HIGH = Scene.HIGH;
@@ -12,7 +12,7 @@ public final class LinesEdgesTest {
     /** Evening 0 has base 10, and note 0 is worth what its signs say. */
     private static final String BY_TEN = "evening 0 10 10;";
 
-    public static void main(String[] args) {
+    static void all() {
         line();
         lineFull();
         lineOf();
@@ -32,7 +32,9 @@ public final class LinesEdgesTest {
         mendedAtTheEnds();
         which();
         gain();
-        Sentences.finish(12, 13, 14, 15, 16, 17, 18, 19, 20, 21, 22, 23);
+        askedAhead();
+        changedTwice();
+        linesOfEvenings();
     }
 
     private static void line() {
@@ -58,7 +60,7 @@ public final class LinesEdgesTest {
     }
 
     private static void lineFull() {
-        Sentences.says(TERMS, "LINES, 6 at most, numbered as they come");
+        Sentences.says(TERMS, "LINES, 6 at most, numbered as they come: a SORT:");
         Scene lines = LIVED;
         for (int i = 2; i < 6; i++) lines = lines.then(i, "line", 3, 2, 0, i);
         lines.shows(6, "many", 1);
@@ -139,10 +141,13 @@ public final class LinesEdgesTest {
     private static void sums() {
         Sentences.says(TERMS, "2 sum (x and y together are worth what z is)");
         for (int z = 6; z <= 8; z++) {
-            Scene three = Scene.told(BY_TEN + "note 0:3;note 0:4;note 0:" + z + ";").with("line", 2, 0, 1, 2);
-            three.then(z == 7 ? 225 : 0, "worlds");
-            three.then(z == 7 ? 1 : 0, "holds", 0, 10, 16, 2);
+            Scene signs = Scene.told(BY_TEN + "note 0:3;note 0:4;note 0:" + z + ";").with("line", 2, 0, 1, 2);
+            signs.then(z == 7 ? 225 : 0, "worlds");
+            signs.then(z == 7 ? 1 : 0, "holds", 0, 10, 16, 2);
         }
+        Scene three = Scene.told("note 0:1,0;note 1:1,0;note 2:1,0;sum 0 1 2;");
+        three.then(91, "worlds").then(2, "world", 0, 0).then(4, "world", 0, 2).then(14, "world", 90, 0).then(16, "world", 90, 2);
+        three.then(131068 & -16, "may", 2);
         Scene twice = Scene.told("note 0:2;note 1:4;sum 0 0 1;");
         twice.then(14 * 12 * 15, "worlds");
         Scene itself = Scene.told("note 0:1;note 0:0;sum 0 0 0;");
@@ -216,6 +221,7 @@ public final class LinesEdgesTest {
     }
 
     private static void sure() {
+        Sentences.says(TERMS, "SURE of an EVENING: its BASE, if it is the same in all WORLDS.");
         Sentences.says(18, "SURE. BAD; NONE: there are several, or no WORLD.");
         for (int b = 2; b <= 16; b++) {
             for (int e = 0; e < 3; e++) NEW.with("evening", e, b, b).shows(b, "sure", e);
@@ -304,6 +310,15 @@ public final class LinesEdgesTest {
         mends(BY_TEN + "note 0:0,1;whole 0 9;", 0, 0, 8);
         mends(BY_TEN + "note 0:0,1;whole 0 8;", 0, 1, 0);
         mends("evening 0 2 2;note 0:1;note 0:2;", 1, 0, 0);
+        // 3,0 is worth 9 by 3, where it can't be.
+        mends("evening 0 3 4;evening 1 10 10;note 0:1,0;note 1:9;same 0 1;", 1, 0, 3);
+        mends("evening 2 10 10;strokes 0:1;strokes 0:1,1;note 2:1;sum 0 1 2;", 2, 0, 3);
+        mends("evening 2 10 10;strokes 0:1;note 2:9;strokes 1:1,1,1;sum 0 1 2;", 1, 0, 2);
+        mends("evening 2 10 10;strokes 0:1;note 2:5;more 0 1;", 1, 0, 0);
+        mends("evening 2 10 10;strokes 0:1;note 2:5;same 0 1;", 1, 0, 1);
+        // Note 0 must stay 5, and is 5 again when note 1 is looked at.
+        mends("evening 0 10 10;note 0:5;note 0:6;strokes 0:1;whole 0 5;more 0 2;same 0 1;", 1, 0, 5);
+        mends("note 0:1,0;note 1:1,0;note 2:1,0;sum 0 1 2;sum 2 0 1;", 0, 0, 0);
     }
 
     private static void mendedAtTheEnds() {
@@ -330,9 +345,14 @@ public final class LinesEdgesTest {
         six.bounds(BAD, "which", new long[] {0}, 0, -1, 6);
         six.shows(0, "which", 5);
         LIVED.shows(7, "which", 2);
+        for (int e = 0; e < 3; e++) {
+            NEW.with("evening", e, 16, 16).with("note", 0, e, 0, 1, 15).with("note", 0, e, 0, 1, 1).shows(7, "which", 1);
+            NEW.with("evening", e, 2, 2).with("note", 0, e, 0, 1, 1).with("note", 0, e, 0, 1, 2).shows(7 & ~(1 << e), "which", 1);
+        }
     }
 
     private static void gain() {
+        Sentences.says(TERMS, "GAIN: WORTH by one BASE less that by another one.");
         Sentences.says(23, "GAIN: WORTH by base to less that by base from (may be below 0). NO: as worth().");
         Scene notes = Scene.told("note 0:1,2;debt 0:1,1;note 2:15,15,15,15,15,15;").withBytes();
         notes.shows(14, "gain", 0, 2, 16);
@@ -345,5 +365,79 @@ public final class LinesEdgesTest {
         notes.bounds(NO, "gain", new long[] {0, 2, 2}, 1, 1, 17, 0, -1, LOW, HIGH);
         notes.bounds(NO, "gain", new long[] {1, 2, 2}, 2, 1, 17, 0, -1, LOW, HIGH);
         NEW.shows(NO, "gain", 0, 2, 2);
+    }
+
+    /** What was answered ahead of a change does not stay behind it. */
+    private static Scene asked(Scene scene) {
+        return scene.with("worlds").with("may", 0).with("proof").with("mended", 0).with("which", 0).with("world", 0, 0);
+    }
+
+    private static void askedAhead() {
+        Sentences.says(15, "How many WORLDS there are.");
+        Scene two = Scene.told("note 0:1,0;note 1:2;").with("sheet", 0, 0, 2).with("put", 0, 0, 9);
+        changes(two, "evening", 0, 3, 3);
+        changes(two, "note", 0, 0, 0, 1, 7);
+        changes(two, "note", 1, 0, 0, 1, 7);
+        changes(two, "alter", 0, 0, 5);
+        changes(two, "move", 1, 0);
+        changes(two, "line", 0, 0, 1, 0);
+        changes(two, "line", 1, 0, 0, 0);
+        changes(two, "signs", 0, 0, 0, 2);
+        changes(two.with("line", 1, 0, 0, 0), "strike", 0);
+        changes(two.with("line", 1, 0, 0, 0), "line", 0, 0, 0, 0);
+        changes(two, "valley");
+        changes(two.fed("strokes 1:2;"), "valley");
+        changes(two.with("keep").with("line", 1, 0, 0, 0), "again");
+        changes(two.with("alter", 0, 0, 7), "add", 0, 1);
+        Scene wrong = two.with("alter", 0, 1, 15).with("evening", 0, 2, 15);
+        changes(wrong, "alter", 0, 1, 14);
+        changes(wrong, "evening", 0, 2, 3);
+        changes(wrong, "note", 0, 0, 0, 1, 15);
+        // A note that was tried on other evenings is where it was.
+        Scene.told("evening 0 2 4;note 0:5;more 0 0;").with("worlds").with("which", 0).shows(0, "proof");
+        Scene.told("evening 0 3 3;evening 1 9 9;evening 2 2 2;note 0:5;note 1:2;").with("worlds").with("which", 1).shows(0, "mended", 0);
+        Scene.told("evening 2 2 2;note 0:5;note 1:2;").with("worlds").with("which", 1).shows(11 * 14, "worlds");
+    }
+
+    /** The scenes behind one change each. */
+    private static Scene[] changed(Scene scene) {
+        return new Scene[] {scene.with("evening", 0, 3, 5), scene.with("note", 0, 0, 0, 1, 7), scene.with("alter", 0, 0, 5),
+            scene.with("alter", 0, 1, 3), scene.with("move", 1, 0), scene.with("line", 0, 0, 1, 0), scene.with("line", 1, 1, 0, 0),
+            scene.with("signs", 1, 0, 0, 1), scene.with("strike", 0), scene.with("valley"), scene.with("add", 0, 1)};
+    }
+
+    private static void changedTwice() {
+        Sentences.says(15, "How many WORLDS there are.");
+        Scene two = Scene.told("note 0:1,0;note 1:2;whole 1 1;").with("sheet", 0, 0, 2).with("put", 0, 0, 9);
+        Scene[] once = changed(two);
+        Scene[] onceAsked = changed(asked(two));
+        for (int i = 0; i < once.length; i++) {
+            Scene[] twice = changed(once[i]);
+            Scene[] twiceAsked = changed(onceAsked[i]);
+            for (int k = 0; k < twice.length; k++) twiceAsked[k].same(twice[k]);
+        }
+    }
+
+    /** A line narrows the bases of those evenings alone of which its notes are. */
+    private static void linesOfEvenings() {
+        Sentences.says(TERMS, "x, y and z are NOTES.");
+        for (int e = 0; e < 3; e++) {
+            Scene one = NEW.with("note", 0, e, 0, 2, 0x10).with("line", 3, 0, 0, 9);
+            for (int f = 0; f < 3; f++) one.then(e == f ? 512 : ALL, "may", f);
+            one.then(225, "worlds").then(NONE, "proof");
+            for (int f = 0; f < 3; f++) {
+                if (f == e) continue;
+                Scene two = NEW.with("evening", f, 9, 10).with("note", 0, e, 0, 2, 0x10).with("note", 0, f, 0, 2, 0x10);
+                two.with("line", 0, 0, 1, 0).then(512 + 1024, "may", e).then(512 + 1024, "may", f).then(ALL, "may", 3 - e - f);
+                two.with("line", 1, 0, 1, 0).then(ALL & -1024, "may", e).then(7 * 15 + 6 * 15, "worlds");
+                two.with("line", 1, 1, 0, 0).then(1024 - 4, "may", e).then(7 * 15 + 8 * 15, "worlds");
+                two.with("line", 2, 0, 0, 1).then(32, "may", e).then(1024, "may", f).then(15, "worlds");
+            }
+        }
+    }
+
+    private static void changes(Scene scene, String name, long... args) {
+        asked(scene).with(name, args).same(scene.with(name, args));
+        asked(asked(scene).with(name, args)).same(scene.with(name, args));
     }
 }

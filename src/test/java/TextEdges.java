@@ -1,5 +1,5 @@
 /** The edges of promise 3: texts that are just right and just wrong; a wrong one uses up the tape and changes nothing else. */
-public final class TextEdgesTest {
+final class TextEdges {
     private static final int TERMS = Sentences.TERMS;
     private static final String SIX_NOTES = "note0:1;note0:1;note0:1;note0:1;note0:1;note0:1;";
     private static final String SIX_LINES = "same0 0;more0 0;sum0 0 0;whole0 1;same0 0;more0 0;";
@@ -7,7 +7,7 @@ public final class TextEdgesTest {
     private static final Scene NEW = Scene.fresh();
     private static final Scene LIVED = Scene.lived();
 
-    public static void main(String[] args) {
+    static void all() {
         counts();
         evenings();
         numbers();
@@ -23,7 +23,6 @@ public final class TextEdgesTest {
         prefixes();
         wholeTape();
         byItAlone();
-        Sentences.finish(3);
     }
 
     private static Scene fine(String text, int notes) {
@@ -130,6 +129,7 @@ public final class TextEdgesTest {
 
     private static void leastAndMost() {
         Sentences.says(TERMS, "on each there were from LEAST to MOST people (2 to 16 each;");
+        Sentences.says(TERMS, "evening: LEAST, MOST.");
         Sentences.says(TERMS, "MOST below LEAST;");
         int[][] right = {{2, 2}, {2, 16}, {16, 16}, {9, 9}, {9, 10}};
         for (int[] r : right) {
@@ -227,12 +227,16 @@ public final class TextEdgesTest {
     }
 
     private static void names() {
+        Sentences.says(TERMS, "TEXT: { KIND N [ at N ] : N { , N } ; | evening N N N ; | same N N ; | more N N ; | sum N N N ; | whole N N ; }");
+        Sentences.says(TERMS, "KIND (note | strokes | broken | left | turned | debt):");
         Sentences.says(TERMS, "NAMES are rows of letters a to z,");
         String[] names = {"note 0:1;", "strokes 0:1;", "broken 0:1;", "left 0:1;", "turned 0:1;", "debt 0:1;"};
         for (int kind = 0; kind < 6; kind++) {
             fine(names[kind], 1).then(kind, "noteOf", 0, 0);
             fault("x" + names[kind], 0);
             fault(names[kind].substring(1), 0);
+            fault("x" + names[kind].substring(1), 0);
+            fault(names[kind].replaceFirst(". ", "z "), 0);
             fault(names[kind].replace(" ", "x "), 0);
             fault(names[kind].replaceFirst(". ", " "), 0);
             fault(names[kind].substring(0, 1).toUpperCase() + names[kind].substring(1), 0);
@@ -241,6 +245,8 @@ public final class TextEdgesTest {
             fine("note0:1;" + line, 1);
             fault("note0:1;a" + line, 8);
             fault("note0:1;" + line.substring(1), 8);
+            fault("note0:1;z" + line.substring(1), 8);
+            fault("note0:1;" + line.replaceFirst(". ", "z "), 8);
             fault("note0:1;" + line.replaceFirst(" ", "z "), 8);
             fault("note0:1;" + line.replaceFirst(". ", " "), 8);
         }

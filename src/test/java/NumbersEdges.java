@@ -1,5 +1,5 @@
 /** The edges of promises 24 to 29: just at them and just beyond, and that a refused call changes nothing. */
-public final class NumbersEdgesTest {
+final class NumbersEdges {
     private static final int TERMS = Sentences.TERMS;
     private static final int BAD = Scene.BAD, FULL = Scene.FULL, NONE = Scene.NONE, STATE = Scene.STATE;
     private static final int LOW = Scene.LOW, HIGH = Scene.HIGH;
@@ -7,7 +7,7 @@ public final class NumbersEdgesTest {
     private static final Scene NEW = Scene.fresh();
     private static final Scene LIVED = Scene.lived().withBytes();
 
-    public static void main(String[] args) {
+    static void all() {
         written();
         writtenPlaces();
         writtenAtPowers();
@@ -21,7 +21,6 @@ public final class NumbersEdgesTest {
         seed();
         guess();
         guessWraps();
-        Sentences.finish(24, 25, 26, 27, 28, 29);
     }
 
     private static void written() {
@@ -168,7 +167,7 @@ public final class NumbersEdgesTest {
             Scene added = unlike.then(2, "add", way, 1 - way);
             int[] due = {1, 2, 3, 4, 5, 15};
             for (int i = 0; i < 6; i++) added = added.then(due[i], "noteOf", 2, 10 + i);
-            added.then(6, "noteOf", 2, 3).then(0, "noteOf", 2, 0).then(1 + way, "noteOf", 2, 1);
+            added.then(6, "noteOf", 2, 3).then(0, "noteOf", 2, 0).then(1 + way, "noteOf", 2, 1).then(0, "noteOf", 2, 2);
         }
         unlike.with("alter", 1, 0, 10).shows(STATE, "add", 0, 1);
         unlike.with("alter", 0, 0, 15).then(2, "add", 0, 1).then(15, "noteOf", 2, 10);
@@ -207,7 +206,7 @@ public final class NumbersEdgesTest {
     }
 
     private static void guessWraps() {
-        Sentences.says(TERMS, "becomes z * 1103515245 + 12345: of all WORLDS that at place (z >>> 16) modulo how many there are.");
+        Sentences.says(TERMS, "GUESSED: z (an int; 1 at first) becomes z * 1103515245 + 12345: of all WORLDS that at place (z >>> 16) modulo how many there are.");
         for (int z : new int[] {0, 1, 2, -1, 5, 77, LOW, HIGH, 1 << 16, 12345}) {
             Scene seeded = NEW.with("seed", z);
             seeded.then((next(z) >>> 16) % 3375, "guess").then(next(z), "seed", 0);

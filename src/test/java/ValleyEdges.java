@@ -1,5 +1,6 @@
 /** The edges of promises 1, 2 and 4 to 11: just at them and just beyond, and that a refused call changes nothing. */
-public final class ValleyEdgesTest {
+final class ValleyEdges {
+    private static final int TERMS = Sentences.TERMS;
     private static final int BAD = Scene.BAD, FULL = Scene.FULL, NONE = Scene.NONE, LOW = Scene.LOW, HIGH = Scene.HIGH;
     private static final long NO = Scene.NO;
     private static final long BLANKS = 0x2020202020202020L;
@@ -8,7 +9,7 @@ public final class ValleyEdgesTest {
     private static final Scene LIVED = Scene.lived().withBytes();
     private static final Scene SIX = Scene.told("note 0:1;note 0:2;note 1:3;debt 1:1;left 2:1;turned 2:1,2,3,4,5,6;").withBytes();
 
-    public static void main(String[] args) {
+    static void all() {
         newObject();
         feedSizes();
         feedFull();
@@ -22,7 +23,6 @@ public final class ValleyEdgesTest {
         worth();
         worthBehindA();
         can();
-        Sentences.finish(1, 2, 4, 5, 6, 7, 8, 9, 10, 11);
     }
 
     private static void newObject() {
@@ -38,14 +38,14 @@ public final class ValleyEdgesTest {
         NEW.shows(NONE, "again");
         NEW.with("valley").shows(NONE, "again");
         NEW.with("note", 0, 0, 0, 1, 1).shows(NONE, "again");
-        Sentences.says(Sentences.TERMS, "(2 to 16 each; 2 and 16 at first)");
+        Sentences.says(TERMS, "(2 to 16 each; 2 and 16 at first)");
         for (int e = 0; e < 3; e++) {
             NEW.shows(2, "eveningOf", e, 0);
             NEW.shows(16, "eveningOf", e, 1);
             NEW.shows(0, "eveningOf", e, 2);
         }
         NEW.shows(15 * 15 * 15, "worlds");
-        Sentences.says(Sentences.TERMS, "z (an int; 1 at first)");
+        Sentences.says(TERMS, "z (an int; 1 at first)");
         NEW.then(1, "seed", 0);
     }
 
@@ -76,7 +76,7 @@ public final class ValleyEdgesTest {
 
     private static void feedFull() {
         Sentences.says(2, "BAD; FULL: more than 200.");
-        Sentences.says(Sentences.TERMS, "THE TAPE takes bytes, 200 at most; valley() uses it up.");
+        Sentences.says(TERMS, "THE TAPE takes bytes, 200 at most; valley() uses it up.");
         for (int n = 1; n <= 8; n++) {
             blanks(200 - n).then(200, "feed", BLANKS, n).then(0, "valley");
             blanks(201 - n).shows(FULL, "feed", BLANKS, n);
@@ -113,6 +113,7 @@ public final class ValleyEdgesTest {
     }
 
     private static void eveningOf() {
+        Sentences.says(TERMS, "Sets are told by bits.");
         Sentences.says(5, "Of an EVENING: what = 0 LEAST, 1 MOST, 2 its NOTES (a set). BAD.");
         int[][] due = {{2, 16, 1}, {3, 9, 2}, {2, 16, 4}};
         for (int e = 0; e < 3; e++) {
@@ -129,7 +130,8 @@ public final class ValleyEdgesTest {
     private static void note() {
         Sentences.says(6, "A NOTE of n SIGNS (1 to 6), told as digits to the base 16, the last one lowest");
         Sentences.says(6, ": its number. BAD: also signs below 0; FULL.");
-        Sentences.says(Sentences.TERMS, "NOTES, 6 at most, numbered as they come");
+        Sentences.says(TERMS, "NOTES, 6 at most, numbered as they come: a KIND:");
+        Sentences.says(TERMS, "an EVENING; SIGNS:");
         long[] right = {5, 1, 3, 2, 0x11};
         for (int kind = 0; kind <= 5; kind++) LIVED.then(3, "note", kind, 1, 3, 2, 0x11).then(kind, "noteOf", 3, 0);
         for (int e = 0; e <= 2; e++) LIVED.then(3, "note", 5, e, 3, 2, 0x11).then(e, "noteOf", 3, 1);
@@ -146,7 +148,7 @@ public final class ValleyEdgesTest {
         five.then(5, "note", right).shows(FULL, "note", right);
         five.then(5, "note", right).shows(6, "many", 0);
         SIX.shows(FULL, "note", right);
-        Sentences.says(Sentences.TERMS, "of several the first named: BAD (-1) there is no such thing, or a number is not as told; FULL (-2)");
+        Sentences.says(TERMS, "of several the first named: BAD (-1) there is no such thing, or a number is not as told; FULL (-2)");
         SIX.refuses(BAD, "note", new long[] {6, 1, 3, 2, 0x11}, new long[] {5, 3, 3, 2, 0x11}, new long[] {5, 1, 7, 2, 0x11},
                 new long[] {5, 1, 3, 7, 0x11}, new long[] {5, 1, 3, 0, 0x11}, new long[] {5, 1, 3, 2, -1});
     }
@@ -204,6 +206,8 @@ public final class ValleyEdgesTest {
     }
 
     private static void worth() {
+        Sentences.says(TERMS, "WORTH of a NOTE by a BASE b (2 to 16): note: its SIGNS as digits to the base b. strokes: how many SIGNS it has.");
+        Sentences.says(TERMS, "turned: as a note whose SIGNS stand the other way round. debt: 0 less what strokes are.");
         Sentences.says(10, "WORTH by a BASE (may be below 0). NO: no such NOTE, base (2 to 16).");
         Scene notes = Scene.told("note 0:1,2,3; strokes 0:9,0; broken 0 at 2:1,2,3; left 0 at 2:1,2,3; turned 0:1,2,3; debt 0:5;");
         for (int b = 2; b <= 16; b++) {
@@ -226,7 +230,7 @@ public final class ValleyEdgesTest {
     }
 
     private static void worthBehindA() {
-        Sentences.says(Sentences.TERMS, "broken: the first A SIGNS to the base b, those behind by b and 1"
+        Sentences.says(TERMS, "broken: the first A SIGNS to the base b, those behind by b and 1"
                 + " (what stands ahead of each of these times b and 1, and it). left: as broken, but by b less 1 behind them.");
         for (int kind = 2; kind <= 3; kind++) {
             int by = kind == 2 ? 11 : 9;
@@ -250,7 +254,7 @@ public final class ValleyEdgesTest {
 
     private static void can() {
         Sentences.says(11, "BASES (2 to 16, bit b) in which a NOTE CAN BE, whatever its EVENING, a set. BAD.");
-        Sentences.says(Sentences.TERMS, "A NOTE CAN BE in a BASE: note, turned: if all its SIGNS are below it. broken: the first A SIGNS below b,"
+        Sentences.says(TERMS, "A NOTE CAN BE in a BASE: note, turned: if all its SIGNS are below it. broken: the first A SIGNS below b,"
                 + " the others below b and 1. left: likewise, the others below b less 1. strokes, debt: if all its SIGNS are 1.");
         for (int sign = 0; sign <= 15; sign++) {
             for (int place = 0; place < 3; place++) {

@@ -1,5 +1,5 @@
 /** The edges of promises 30 to 34: just at them and just beyond, and that a refused call changes nothing. */
-public final class RowsEdgesTest {
+final class RowsEdges {
     private static final int TERMS = Sentences.TERMS;
     private static final int BAD = Scene.BAD, NONE = Scene.NONE, LOW = Scene.LOW, HIGH = Scene.HIGH;
     private static final long NO = Scene.NO;
@@ -10,7 +10,7 @@ public final class RowsEdgesTest {
     private static final Scene PROVED = Scene.told("evening 0 5 8;evening 1 9 12;note 0:1,2;note 1:8;note 0:4;more 1 0;same 2 2;")
             .with("keep").with("prove", 0).withBytes();
 
-    public static void main(String[] args) {
+    static void all() {
         prove();
         proveAgain();
         row();
@@ -24,7 +24,6 @@ public final class RowsEdgesTest {
         signsPlaces();
         signsHeld();
         signsFirstNamed();
-        Sentences.finish(30, 31, 32, 33, 34);
     }
 
     private static void prove() {
@@ -127,6 +126,9 @@ public final class RowsEdgesTest {
         ahead.with("alterRow", 2, 1, 6).shows(300, "judge");
         ahead.with("alterRow", 2, 1, 6).with("strike", 0).shows(0, "judge");
         PROVED.with("alterRow", 2, 1, 6).shows(3, "judge");
+        // Neither bases that a line was looked at with nor those of an earlier reading count.
+        PROVED.with("holds", 0, 16, 16, 16).shows(0, "judge");
+        PROVED.with("judge").with("prove", 59).then(12, "row", 1, 1).then(0, "judge");
         Scene moved = PROVED.with("move", 2, 2);
         moved.shows(0, "judge");
         moved.with("alterRow", 2, 1, 16).shows(0, "judge");
@@ -195,7 +197,7 @@ public final class RowsEdgesTest {
             s.with("sheet", 0, sort, 7).shows(OTHER, "signs", 0, 0, 0, 1);
             s.with("sheet", 0, sort, 7).shows(OTHER, "signs", 0, 0, 0, 0);
         }
-        s.with("signs", 0, 0, 0, 3).then(131072 - 1024, "can", 0).then(131072 - 1024, "may", 0);
+        s.with("may", 0).with("signs", 0, 0, 0, 3).then(131072 - 1024, "can", 0).then(131072 - 1024, "may", 0);
     }
 
     private static void signsPlaces() {

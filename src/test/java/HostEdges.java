@@ -1,5 +1,5 @@
 /** The edges of promises 35 to 42: just at them and just beyond, and that a refused call changes nothing. */
-public final class HostEdgesTest {
+final class HostEdges {
     private static final int TERMS = Sentences.TERMS;
     private static final int BAD = Scene.BAD, NONE = Scene.NONE, LOW = Scene.LOW, HIGH = Scene.HIGH;
     private static final int NOTHING = -11, OUTSIDE = -12, OTHER = -13, BELOW = -14, PARTED = -15;
@@ -8,7 +8,7 @@ public final class HostEdgesTest {
     /** By kind of a thing: the set of kinds that it may be taken for. */
     private static final int[] KINDS = {1, 3, 5, 13, 17, 35};
 
-    public static void main(String[] args) {
+    static void all() {
         sheet();
         sheetMissing();
         put();
@@ -26,8 +26,8 @@ public final class HostEdgesTest {
         parted();
         wraps();
         trace();
+        tracesOfKinds();
         many();
-        Sentences.finish(35, 36, 37, 38, 39, 40, 41, 42);
     }
 
     private static void sheet() {
@@ -54,7 +54,7 @@ public final class HostEdgesTest {
 
     private static void sheetMissing() {
         Sentences.says(35, ", or missing (sort -1; n counts nothing then)");
-        Sentences.says(TERMS, "40 at most, or missing (at first).");
+        Sentences.says(TERMS, "SHEETS 0 to 3 are rows of bytes (sort 0), shorts (1), ints (2) or longs (3), 40 at most, or missing (at first).");
         for (int sheet = 0; sheet <= 3; sheet++) {
             NEW.shows(NOTHING, "put", sheet, 0, 1);
             for (int n : new int[] {LOW, -1, 0, 40, 41, HIGH}) LIVED.then(1, "sheet", sheet, -1, n).then(NOTHING, "item", sheet, 0, 0);
@@ -185,7 +185,11 @@ public final class HostEdgesTest {
         Scene none = held.with("valley");
         none.shows(NOTHING, "taken", 0, 0);
         none.shows(NOTHING, "taken", 1, 0);
-        Scene.fresh().with("keep").with("note", 0, 0, 0, 1, 1).with("shelf", 0, 0, 0).with("again").shows(NOTHING, "taken", 0, 0);
+        NEW.with("keep").with("note", 0, 0, 0, 1, 1).with("shelf", 0, 0, 0).with("again").shows(NOTHING, "taken", 0, 0);
+        // A row that lay on the shelf ahead of the note does not come back.
+        Scene row = NEW.with("note", 0, 0, 0, 1, 1).with("sheet", 0, 0, 5).with("shelf", 0, 1, 0).with("shelf", 0, 0, 0).with("valley");
+        row.shows(NOTHING, "taken", 0, 10);
+        row.shows(NOTHING, "taken", 0, 0);
     }
 
     private static void act() {
@@ -197,6 +201,13 @@ public final class HostEdgesTest {
             held.then(2, "act", shelf, 2, 10).then(1, "many", 4);
             held.then(22 ^ 6, "act", shelf, 3, 10).then(3, "many", 4);
         }
+        Sentences.says(TERMS, "A NOTE is held as a thing of its KIND; n: its number, a: its A.");
+        Sentences.says(TERMS, "note: 10 reads: x + n. 11 writes: reads(x) * 2.");
+        Sentences.says(TERMS, "13 tells: writes(x) ^ a.");
+        Sentences.says(TERMS, "strokes: 20 writes: super.writes(x) - a. broken: 30 reads: super.reads(x) * 3. 31 tells: super.tells(x) + shares(n)."
+                + " left: 40 reads: 0 - super.reads(x). 41 writes: super.writes(x) + reads(n).");
+        Sentences.says(TERMS, "turned: 60 tells: super.tells(x) * 2. 61 shares: super.shares(x) + reads(a)."
+                + " debt: 50 shares: super.shares(x + 2) ^ 1. 51 reads: super.reads(x) - n.");
         int[][] due = {{10, 20, 10 / 6, 20 ^ 6}, {11, 16, 2, 16 ^ 6}, {36, 72, 2, 72 ^ 6}, {-39, -96, 3, (-96 ^ 6) + 1},
             {14, 28, 5 + 10, (28 ^ 6) * 2}, {10, 14, 12 ^ 1, 14 ^ 6}};
         Scene kinds = NEW;
@@ -294,6 +305,34 @@ public final class HostEdgesTest {
         reads.shows(10, "trace", 2);
         reads.bounds(NONE, "trace", new long[] {0}, 0, -1, 3, 10, 31);
         NEW.bounds(NONE, "trace", new long[] {0}, 0, -1, 0, 1, LOW, HIGH);
+    }
+
+    private static void tracesOfKinds() {
+        Sentences.says(TERMS, "BODIES, each with its number:");
+        // By kind, then by act.
+        int[][][] bodies = {
+            {{10}, {11, 10}, {12}, {13, 11, 10}},
+            {{10}, {20, 11, 10}, {12}, {13, 20, 11, 10}},
+            {{30, 10}, {11, 30, 10}, {12}, {31, 13, 11, 30, 10, 12}},
+            {{40, 30, 10}, {41, 11, 40, 30, 10, 40, 30, 10}, {12}, {31, 13, 41, 11, 40, 30, 10, 40, 30, 10, 12}},
+            {{10}, {11, 10}, {61, 12, 10}, {60, 13, 11, 10}},
+            {{51, 10}, {20, 11, 51, 10}, {50, 12}, {13, 20, 11, 51, 10}}};
+        for (int kind = 0; kind <= 5; kind++) {
+            for (int act = 0; act <= 3; act++) {
+                Scene acted = NEW.with("note", kind, 0, 1, 1, 1).with("shelf", 0, 0, 0).with("act", 0, act, 5);
+                int[] due = bodies[kind][act];
+                for (int i = 0; i < due.length; i++) acted.shows(due[i], "trace", i);
+                acted.shows(NONE, "trace", due.length);
+                acted.shows(due.length, "many", 4);
+                Scene parted = NEW.with("note", kind, 0, 0, 1, 1).with("shelf", 0, 0, 0).with("act", 0, act, 5);
+                // Where it is parted by 0, the body 12 is the last one.
+                int last = due.length;
+                for (int i = due.length - 1; i >= 0; i--) last = due[i] == 12 ? i + 1 : last;
+                for (int i = 0; i < last; i++) parted.shows(due[i], "trace", i);
+                parted.shows(NONE, "trace", last);
+                parted.shows(last, "many", 4);
+            }
+        }
     }
 
     private static void many() {
