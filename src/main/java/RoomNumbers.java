@@ -842,23 +842,21 @@ public final class RoomNumbers {
             return i >= 0 && i < noteCount ? notes[i] : null;
         }
 
+        /** Made here and not in a method of its own: the text's chain of calls ends in it. */
         int addNote(int kind, int evening, int a, int[] marks) {
-            if (noteCount >= NOTES) return FULL;
-            notes[noteCount] = made(kind, noteCount, evening, a, marks);
+            int i = noteCount;
+            if (i >= NOTES) return FULL;
+            switch (kind) {
+                case 1: notes[i] = new Strokes(i, evening, a, marks); break;
+                case 2: notes[i] = new Broken(i, evening, a, marks); break;
+                case 3: notes[i] = new Left(i, evening, a, marks); break;
+                case 4: notes[i] = new Turned(i, evening, a, marks); break;
+                case 5: notes[i] = new Debt(i, evening, a, marks); break;
+                default: notes[i] = new Note(i, evening, a, marks); break;
+            }
             noteCount++;
             version++;
-            return noteCount - 1;
-        }
-
-        private static Note made(int kind, int number, int evening, int a, int[] marks) {
-            switch (kind) {
-                case 1: return new Strokes(number, evening, a, marks);
-                case 2: return new Broken(number, evening, a, marks);
-                case 3: return new Left(number, evening, a, marks);
-                case 4: return new Turned(number, evening, a, marks);
-                case 5: return new Debt(number, evening, a, marks);
-                default: return new Note(number, evening, a, marks);
-            }
+            return i;
         }
 
         int addLine(int sort, int x, int y, int z) {
@@ -1202,19 +1200,16 @@ public final class RoomNumbers {
             place = 0;
             draft.clear();
             next();
+            boolean right = true;
             // Each statement takes a byte at least.
-            for (int turn = 0; turn <= length && sort != END; turn++) {
-                if (!statement()) return false;
+            for (int turn = 0; turn <= length && right && sort != END; turn++) {
+                int kind = kindNamed();
+                int lineSort = lineSortNamed();
+                if (kind >= 0) right = noteTold(kind);
+                else if (lineSort >= 0) right = lineTold(lineSort);
+                else right = isName("evening") && eveningTold();
             }
-            return sort == END;
-        }
-
-        private boolean statement() {
-            int kind = kindNamed();
-            if (kind >= 0) return noteTold(kind);
-            if (isName("evening")) return eveningTold();
-            int lineSort = lineSortNamed();
-            return lineSort >= 0 && lineTold(lineSort);
+            return right && sort == END;
         }
 
         private int kindNamed() {
